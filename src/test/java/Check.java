@@ -1,0 +1,61 @@
+/** Counts what is not as due; a test ends with finish(). */
+final class Check {
+  private final String test;
+  private int asked = 0;
+  private int wrong = 0;
+
+  Check(String test) {
+    this.test = test;
+  }
+
+  void same(String what, Object got, Object due) {
+    asked++;
+    if (!due.equals(got)) {
+      wrong++;
+      System.out.println(test + ": " + what + " answered " + got + ", due is " + due);
+    }
+  }
+
+  void is(String what, long got, long due) {
+    same(what, got, due);
+  }
+
+  void isDouble(String what, double got, double due) {
+    same(what, got, due);
+  }
+
+  /** The call must throw exactly this exception and leave the arcade as it was. */
+  void refused(PennyArcade arcade, Class<? extends RuntimeException> due, String what, Runnable call) {
+    long before = arcade.digest();
+    same(what + " throws", thrownBy(call), due.getName());
+    is("digest() behind " + what, arcade.digest(), before);
+  }
+
+  void noIndex(PennyArcade arcade, String what, Runnable call) {
+    refused(arcade, IndexOutOfBoundsException.class, what, call);
+  }
+
+  void noArgument(PennyArcade arcade, String what, Runnable call) {
+    refused(arcade, IllegalArgumentException.class, what, call);
+  }
+
+  void noState(PennyArcade arcade, String what, Runnable call) {
+    refused(arcade, IllegalStateException.class, what, call);
+  }
+
+  static String thrownBy(Runnable call) {
+    try {
+      call.run();
+      return "nothing";
+    } catch (RuntimeException e) {
+      return e.getClass().getName();
+    }
+  }
+
+  void finish() {
+    System.out.println(test + ": " + asked + " answers asked, " + wrong + " not as due");
+    if (wrong != 0) {
+      System.exit(1);
+    }
+  }
+}
