@@ -1,0 +1,249 @@
+/** Promises 18 to 23: rounds, counts, foresight, advice, what comes back and the checksum. */
+final class RoundsTest {
+  private static final Check CHECK = new Check("RoundsTest");
+  private static final int MIN = Integer.MIN_VALUE;
+  private static final int MAX = Integer.MAX_VALUE;
+
+  public static void main(String[] args) {
+    pass();
+    passManyRounds();
+    count();
+    foresee();
+    foreseeChangesNothing();
+    adviseNone();
+    adviseMachine();
+    adviseLeavesOutTheRow();
+    back();
+    digest();
+    CHECK.finish();
+  }
+
+  /** A table whose three cups pay the same, so that each play pays it. */
+  private static int tablePaying(PennyArcade x, int pay, int box) {
+    int table = x.addTable(3, 2, box);
+    for (int column = 0; column < 3; column++) {
+      x.setCup(table, column, pay);
+    }
+    return table;
+  }
+
+  private static void playOften(PennyArcade x, int player, int machine, int times) {
+    for (int i = 0; i < times; i++) {
+      x.play(player, machine, 0, 0);
+    }
+  }
+
+  private static void pass() {
+    PennyArcade x = new PennyArcade();
+    tablePaying(x, 2, 100);
+    x.come(10, 9);
+    x.come(10, 9);
+    for (int wrong : new int[] {0, 201, -1, MIN, MAX}) {
+      CHECK.noArgument(x, "pass(" + wrong + ")", () -> x.pass(wrong));
+    }
+    CHECK.is("they go there", x.pass(1), 0);
+    CHECK.is("two play for two rounds", x.pass(2), 8);
+    CHECK.is("the round", x.count(0), 3);
+    CHECK.is("until it jams", x.pass(200), 32);
+    CHECK.is("the round then", x.count(0), 203);
+    CHECK.is("the box", x.machine(0, 4), 80);
+  }
+
+  private static void passManyRounds() {
+    PennyArcade slow = mixed();
+    PennyArcade fast = mixed();
+    int paid = 0;
+    for (int i = 0; i < 40; i++) {
+      paid += slow.pass(1);
+    }
+    CHECK.is("40 rounds at once", fast.pass(40), paid);
+    CHECK.is("and the state behind them", fast.digest(), slow.digest());
+  }
+
+  private static void count() {
+    PennyArcade x = new PennyArcade();
+    x.addPusher(9, 7);
+    tablePaying(x, 0, 30);
+    x.addPusher(3, 2);
+    x.come(40, 9);
+    x.come(5, 9);
+    x.come(0, 9);
+    playOften(x, 0, 0, 20);
+    x.go(2, 1);
+    x.call(0);
+    x.call(2);
+    x.pass(1);
+    int[] due = {1, 3, 1, 3, 2, 25, 39, 20, 2, 2};
+    for (int what = 0; what < due.length; what++) {
+      CHECK.is("count(" + what + ")", x.count(what), due[what]);
+    }
+    for (int wrong : new int[] {-1, 10, MIN, MAX}) {
+      CHECK.noIndex(x, "count(" + wrong + ")", () -> x.count(wrong));
+    }
+  }
+
+  private static PennyArcade mixed() {
+    PennyArcade x = new PennyArcade();
+    tablePaying(x, 2, 60);
+    x.addPusher(1, 40);
+    x.addTable(5, 7, 20);
+    x.setCup(2, 2, 9);
+    x.bend(2, 3, 2, -1);
+    x.come(30, 2);
+    x.come(9, 5);
+    x.come(70, 1);
+    x.go(2, 1);
+    playOften(x, 0, 1, 15);
+    x.setSkill(1);
+    x.call(1);
+    x.call(0);
+    return x;
+  }
+
+  private static void foresee() {
+    PennyArcade x = mixed();
+    for (int rounds : new int[] {1, 2, 17, 60, 200}) {
+      PennyArcade then = mixed();
+      int paid = then.pass(rounds);
+      CHECK.is("paid in " + rounds, x.foresee(rounds, 0), paid);
+      CHECK.is("in boxes behind " + rounds, x.foresee(rounds, 1), then.count(6));
+      CHECK.is("jammed behind " + rounds, x.foresee(rounds, 2), then.count(2));
+    }
+    PennyArcade y = new PennyArcade();
+    tablePaying(y, 2, 100);
+    y.addPusher(9, 3);
+    y.come(30, 9);
+    CHECK.is("paid in 6", y.foresee(6, 0), 10);
+    CHECK.is("in boxes behind 6", y.foresee(6, 1), 98);
+    CHECK.is("jammed behind 6", y.foresee(6, 2), 0);
+    CHECK.is("jammed behind 21", y.foresee(21, 2), 1);
+    for (int wrong : new int[] {0, 201, -1, MIN, MAX}) {
+      CHECK.noArgument(x, "foresee(" + wrong + ", 0)", () -> x.foresee(wrong, 0));
+      CHECK.noArgument(x, "foresee(" + wrong + ", 3)", () -> x.foresee(wrong, 3));
+    }
+    for (int wrong : new int[] {-1, 3, MIN, MAX}) {
+      CHECK.noIndex(x, "foresee(1, " + wrong + ")", () -> x.foresee(1, wrong));
+    }
+  }
+
+  private static void foreseeChangesNothing() {
+    PennyArcade asked = mixed();
+    PennyArcade quiet = mixed();
+    for (int i = 0; i < 30; i++) {
+      long before = asked.digest();
+      asked.foresee(1 + i * 6, i % 3);
+      asked.advise(1 + i * 2);
+      CHECK.is("the state behind foresight", asked.digest(), before);
+      CHECK.is("the rounds behind foresight", asked.pass(1), quiet.pass(1));
+      CHECK.is("the state behind a round", asked.digest(), quiet.digest());
+    }
+  }
+
+  private static void adviseNone() {
+    PennyArcade x = new PennyArcade();
+    CHECK.is("no machine", x.advise(1), -1);
+    x.addTable(3, 2, 50);
+    x.addPusher(3, 5);
+    CHECK.is("no player", x.advise(60), -1);
+    x.come(40, 9);
+    CHECK.is("all work for so long", x.advise(10), -1);
+    for (int wrong : new int[] {0, 61, -1, MIN, MAX}) {
+      CHECK.noArgument(x, "advise(" + wrong + ")", () -> x.advise(wrong));
+    }
+    PennyArcade y = new PennyArcade();
+    tablePaying(y, 2, 100);
+    y.come(40, 9);
+    playOften(y, 0, 0, 20);
+    CHECK.is("a repair would only lose tokens", y.advise(30), -1);
+  }
+
+  private static void adviseMachine() {
+    PennyArcade x = new PennyArcade();
+    x.come(100, 9);
+    x.addTable(3, 2, 0);
+    x.addTable(3, 2, 9);
+    x.addTable(3, 2, 9);
+    for (int machine = 0; machine < 3; machine++) {
+      playOften(x, 0, machine, 20);
+    }
+    CHECK.is("all are jammed; too few rounds for a repair", x.advise(3), -1);
+    CHECK.is("one round to go there, none to play", x.advise(4), -1);
+    CHECK.is("one play, at each of the three: the smallest number", x.advise(5), 0);
+    x.setSkill(2);
+    CHECK.is("a skilled one is sooner ready", x.advise(2), -1);
+    CHECK.is("so one play", x.advise(3), 0);
+    x.setCup(0, 0, 1);
+    x.setCup(0, 1, 1);
+    x.setCup(0, 2, 1);
+    CHECK.is("the first one pays it back", x.advise(3), 1);
+  }
+
+  private static void adviseLeavesOutTheRow() {
+    PennyArcade x = new PennyArcade();
+    x.come(100, 9);
+    x.setSkill(5);
+    for (int machine = 0; machine < 3; machine++) {
+      x.addTable(3, 2, 0);
+      playOften(x, 0, machine, 20);
+    }
+    CHECK.is("nothing is in the row", x.advise(60), 0);
+    x.call(0);
+    CHECK.is("behind the first one, the second", x.advise(60), 1);
+    CHECK.is("the first one will do for so long", x.advise(10), -1);
+    x.call(1);
+    x.call(2);
+    CHECK.is("all are in the row", x.advise(60), -1);
+  }
+
+  private static void back() {
+    PennyArcade x = new PennyArcade();
+    tablePaying(x, 1, 5);
+    tablePaying(x, 0, 5);
+    x.come(50, 9);
+    CHECK.isDouble("none let in", x.back(), 0.0);
+    x.play(0, 1, 0, 0);
+    CHECK.isDouble("none paid", x.back(), 0.0);
+    x.play(0, 0, 0, 0);
+    CHECK.isDouble("one of two", x.back(), 0.5);
+    x.play(0, 0, 0, 0);
+    CHECK.isDouble("two of three", x.back(), 2.0 / 3.0);
+    x.setCup(0, 0, 7);
+    x.play(0, 0, 0, 0);
+    CHECK.isDouble("all of the box", x.back(), (2.0 + 6.0) / 4.0);
+    playOften(x, 0, 1, 3);
+    CHECK.isDouble("eight of seven", x.back(), 8.0 / 7.0);
+  }
+
+  private static void digest() {
+    PennyArcade x = new PennyArcade();
+    x.addTable(3, 2, 11);
+    x.addPusher(1, 13);
+    for (int column = 0; column < 3; column++) {
+      x.setCup(0, column, column + 4);
+      x.bend(0, 0, column, column - 1);
+      x.bend(0, 1, column, 1 - column);
+    }
+    x.come(20, 3);
+    x.come(30, 4);
+    for (int i = 0; i < 4; i++) {
+      x.play(1, 1, 0, 0);
+    }
+    x.go(1, 1);
+    x.call(1);
+    x.call(0);
+    int[] due = {
+      0, 2, 0, 2, 1, 46, 24, 4, 2, 0,
+      0, 3, 2, 0, 11, 0, 0, 0, 0, 0, 0, 4, 5, 6, -1, 0, 1, 1, 0, -1,
+      1, 0, 0, 1, 13, 4, 0, 1, 4, 0, 4, 1, 1, 1, 1, 0,
+      20, 3, -1, 0, 0, 0,
+      26, 4, 1, 0, 4, 0,
+      1, 0,
+    };
+    long d = 631;
+    for (int number : due) {
+      d = d * 31 + number;
+    }
+    CHECK.is("digest()", x.digest(), d);
+    CHECK.is("digest() changes nothing", x.digest(), d);
+  }
+}
