@@ -43,13 +43,20 @@ final class Check {
     refused(arcade, IllegalStateException.class, what, call);
   }
 
-  static String thrownBy(Runnable call) {
+  private static String thrownBy(Runnable call) {
     try {
       call.run();
       return "nothing";
     } catch (RuntimeException e) {
-      return e.getClass().getName();
+      return nameOf(e);
     }
+  }
+
+  /** An exception that the class did not throw itself, but the machine or the library in it, is never due. */
+  static String nameOf(RuntimeException e) {
+    StackTraceElement[] trace = e.getStackTrace();
+    boolean own = trace.length > 0 && trace[0].getClassName().split("\\$")[0].equals("PennyArcade");
+    return own ? e.getClass().getName() : e.getClass().getName() + " from outside the class";
   }
 
   void finish() {

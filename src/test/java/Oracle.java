@@ -3,12 +3,12 @@ import java.util.Arrays;
 
 /**
  * The document once more, written as plainly as can be and apart from the class: each call answers
- * a long, or the simple name of the exception. Foresight works on a copy.
+ * a long, or the name of the exception. Foresight works on a copy.
  */
 final class Oracle {
-  static final String INDEX = "IndexOutOfBoundsException";
-  static final String ARGUMENT = "IllegalArgumentException";
-  static final String STATE = "IllegalStateException";
+  static final String INDEX = "java.lang.IndexOutOfBoundsException";
+  static final String ARGUMENT = "java.lang.IllegalArgumentException";
+  static final String STATE = "java.lang.IllegalStateException";
 
   // A machine: kind, columns, rows, strength, box, wear, jammed, let in, paid.
   private final ArrayList<int[]> facts = new ArrayList<>();

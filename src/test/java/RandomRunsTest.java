@@ -189,8 +189,7 @@ final class RandomRunsTest {
     try {
       answer = got.get();
     } catch (RuntimeException e) {
-      // The class's own name: ArrayIndexOutOfBoundsException, which the machine throws, is not what is due.
-      answer = e.getClass().getSimpleName();
+      answer = Check.nameOf(e);
     }
     asked++;
     if (!answer.equals(due)) {

@@ -92,9 +92,11 @@ final class RoundsTest {
     x.come(30, 2);
     x.come(9, 5);
     x.come(70, 1);
+    x.addPusher(4, 0);
+    x.come(90, 9);
     x.go(2, 1);
-    playOften(x, 0, 1, 15);
-    x.setSkill(1);
+    x.go(3, 3);
+    playOften(x, 0, 1, 20);
     x.call(1);
     x.call(0);
     return x;
