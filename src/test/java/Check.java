@@ -27,8 +27,17 @@ final class Check {
   /** The call must throw exactly this exception and leave the arcade as it was. */
   void refused(PennyArcade arcade, Class<? extends RuntimeException> due, String what, Runnable call) {
     long before = arcade.digest();
+    int skill = skillOf(arcade);
     same(what + " throws", thrownBy(call), due.getName());
     is("digest() behind " + what, arcade.digest(), before);
+    is("the skill behind " + what, skillOf(arcade), skill);
+  }
+
+  /** The digest leaves the skill out, and only setSkill tells it. */
+  private static int skillOf(PennyArcade arcade) {
+    int skill = arcade.setSkill(0);
+    arcade.setSkill(skill);
+    return skill;
   }
 
   void noIndex(PennyArcade arcade, String what, Runnable call) {

@@ -6,15 +6,25 @@ final class MachinesTest {
 
   public static void main(String[] args) {
     newObject();
+    newObjectDoes();
+    objectsApart();
     addTable();
     addPusher();
     bend();
     setCup();
     machine();
+    machineBehindRepair();
+    boxBeyondItsFirstRange();
     ends();
+    endsByTheSumOfRowAndColumn();
     bestTilt();
     dead();
+    deadAtBothEnds();
     ledge();
+    ledgeAtItsStrength();
+    ledgeFallsInNumbers();
+    lastOfEightMachines();
+    noMachineIsNamedFirst();
     CHECK.finish();
   }
 
@@ -37,6 +47,42 @@ final class MachinesTest {
     CHECK.noIndex(x, "player(0, 0) of a new object", () -> x.player(0, 0));
     CHECK.noIndex(x, "repair(0) of a new object", () -> x.repair(0));
     CHECK.is("setSkill(0) of a new object", x.setSkill(0), 0);
+  }
+
+  private static void newObjectDoes() {
+    PennyArcade x = new PennyArcade();
+    CHECK.noIndex(x, "bend of a new object", () -> x.bend(0, 0, 0, 0));
+    CHECK.noIndex(x, "setCup of a new object", () -> x.setCup(0, 0, 0));
+    CHECK.noIndex(x, "ends of a new object", () -> x.ends(0, 0, 0));
+    CHECK.noIndex(x, "bestTilt of a new object", () -> x.bestTilt(0, 0));
+    CHECK.noIndex(x, "dead of a new object", () -> x.dead(0));
+    CHECK.noIndex(x, "ledge of a new object", () -> x.ledge(0, 0));
+    CHECK.noIndex(x, "call of a new object", () -> x.call(0));
+    CHECK.noIndex(x, "go of a new object", () -> x.go(0, -1));
+    CHECK.noIndex(x, "play of a new object", () -> x.play(0, 0, 0, 0));
+    for (int what = 0; what < 3; what++) {
+      CHECK.is("foresee(200, " + what + ") of a new object", x.foresee(200, what), 0);
+    }
+    CHECK.is("advise(60) of a new object", x.advise(60), -1);
+    CHECK.is("pass(1) of a new object", x.pass(1), 0);
+    CHECK.is("the round behind it", x.count(0), 1);
+    x.come(5, 5);
+    CHECK.noIndex(x, "play where no machine is", () -> x.play(0, 0, 0, 0));
+    CHECK.noIndex(x, "go where no machine is", () -> x.go(0, 0));
+    CHECK.is("go to none where no machine is", x.go(0, -1), -1);
+  }
+
+  private static void objectsApart() {
+    PennyArcade one = new PennyArcade();
+    PennyArcade other = new PennyArcade();
+    long empty = other.digest();
+    one.addTable(3, 2, 5);
+    one.come(5, 5);
+    one.setSkill(4);
+    one.call(0);
+    one.pass(3);
+    CHECK.is("another object stays empty", other.digest(), empty);
+    CHECK.is("and has its own mechanic", other.setSkill(1), 0);
   }
 
   private static void addTable() {
@@ -65,7 +111,12 @@ final class MachinesTest {
     }
     CHECK.noState(x, "a ninth table", () -> x.addTable(3, 2, 0));
     CHECK.noState(x, "a ninth machine", () -> x.addPusher(1, 0));
-    CHECK.noArgument(x, "a ninth table, and a wrong one", () -> x.addTable(2, 2, 0));
+    CHECK.noArgument(x, "a ninth table, of columns 2", () -> x.addTable(2, 2, 0));
+    CHECK.noArgument(x, "a ninth table, of columns 10", () -> x.addTable(10, 2, 0));
+    CHECK.noArgument(x, "a ninth table, of rows 1", () -> x.addTable(3, 1, 0));
+    CHECK.noArgument(x, "a ninth table, of rows 13", () -> x.addTable(3, 13, 0));
+    CHECK.noArgument(x, "a ninth table, of box -1", () -> x.addTable(3, 2, -1));
+    CHECK.noArgument(x, "a ninth table, of box 10000", () -> x.addTable(3, 2, 10000));
     CHECK.is("machines", x.count(1), 8);
   }
 
@@ -86,7 +137,11 @@ final class MachinesTest {
     }
     CHECK.noState(x, "a ninth pusher", () -> x.addPusher(1, 0));
     CHECK.noState(x, "a ninth machine", () -> x.addTable(3, 2, 0));
-    CHECK.noArgument(x, "a ninth pusher, and a wrong one", () -> x.addPusher(1, -1));
+    CHECK.noArgument(x, "a ninth pusher, of box -1", () -> x.addPusher(1, -1));
+    CHECK.noArgument(x, "a ninth pusher, of box 10000", () -> x.addPusher(1, 10000));
+    CHECK.noArgument(x, "a ninth pusher, of strength 0", () -> x.addPusher(0, 0));
+    CHECK.noArgument(x, "a ninth pusher, of strength 10", () -> x.addPusher(10, 0));
+    CHECK.is("machines", x.count(1), 8);
   }
 
   private static void bend() {
@@ -174,6 +229,38 @@ final class MachinesTest {
     }
   }
 
+  private static void machineBehindRepair() {
+    PennyArcade x = new PennyArcade();
+    x.addTable(3, 2, 10);
+    x.setCup(0, 0, 1);
+    x.come(40, 9);
+    x.setSkill(5);
+    for (int play = 1; play <= 20; play++) {
+      CHECK.is("pay of play " + play, x.play(0, 0, 0, 0), 1);
+      CHECK.is("the wear behind play " + play, x.machine(0, 5), play);
+      CHECK.is("jammed behind play " + play, x.machine(0, 6), play == 20 ? 1 : 0);
+    }
+    x.call(0);
+    x.pass(1);
+    facts(x, 0, 0, 3, 2, 0, 10, 0, 0, 0, 20, 20, 0);
+    for (int play = 1; play <= 20; play++) {
+      x.play(0, 0, 0, 0);
+      CHECK.is("jammed behind the repair and play " + play, x.machine(0, 6), play == 20 ? 1 : 0);
+    }
+    CHECK.noState(x, "play at what jammed again", () -> x.play(0, 0, 0, 0));
+    facts(x, 0, 0, 3, 2, 0, 10, 20, 1, 0, 40, 40, 0);
+  }
+
+  private static void boxBeyondItsFirstRange() {
+    PennyArcade x = new PennyArcade();
+    x.addTable(3, 2, 9999);
+    x.come(3, 9);
+    x.play(0, 0, 0, 0);
+    x.play(0, 0, 0, 0);
+    CHECK.is("a box is filled beyond 9999", x.machine(0, 4), 10001);
+    CHECK.is("and counted so", x.count(6), 10001);
+  }
+
   private static void ends() {
     PennyArcade x = new PennyArcade();
     x.addTable(3, 2, 0);
@@ -209,6 +296,23 @@ final class MachinesTest {
       CHECK.noArgument(x, "ends of tilt " + wrong, () -> x.ends(0, 0, wrong));
     }
     CHECK.noArgument(x, "ends of a pusher", () -> x.ends(1, 0, 0));
+  }
+
+  private static void endsByTheSumOfRowAndColumn() {
+    PennyArcade x = new PennyArcade();
+    x.addTable(9, 3, 0);
+    // From an even column each of the rows heeds the tilt; from an odd one the row 0 does not, and then each does.
+    int[] right = {3, 3, 5, 5, 7, 7, 8, 8, 8};
+    int[] left = {0, 0, 0, 1, 1, 3, 3, 5, 5};
+    for (int column = 0; column < 9; column++) {
+      CHECK.is("three rows to the right from " + column, x.ends(0, column, 1), right[column]);
+      CHECK.is("three rows to the left from " + column, x.ends(0, column, -1), left[column]);
+      CHECK.is("three rows with no tilt from " + column, x.ends(0, column, 0), column);
+    }
+    x.bend(0, 0, 3, 1);
+    CHECK.is("a bent pin at an odd sum sends it on", x.ends(0, 3, 0), 4);
+    x.bend(0, 0, 4, 1);
+    CHECK.is("a bent pin at an even sum heeds no tilt", x.ends(0, 4, -1), 3);
   }
 
   private static void bestTilt() {
@@ -267,6 +371,24 @@ final class MachinesTest {
     CHECK.noArgument(x, "dead of a pusher", () -> x.dead(1));
   }
 
+  private static void deadAtBothEnds() {
+    PennyArcade x = new PennyArcade();
+    x.addTable(9, 12, 0);
+    CHECK.is("all straight", x.dead(0), 0);
+    for (int column = 0; column < 9; column++) {
+      for (int row = 0; row < 12; row++) {
+        x.bend(0, row, column, -1);
+      }
+    }
+    CHECK.is("all to the left: none but the first cup", x.dead(0), 8);
+    for (int column = 0; column < 9; column++) {
+      for (int row = 0; row < 12; row++) {
+        x.bend(0, row, column, 1);
+      }
+    }
+    CHECK.is("all to the right: none but the last cup", x.dead(0), 8);
+  }
+
   private static void ledge() {
     PennyArcade x = new PennyArcade();
     x.addPusher(2, 0);
@@ -295,5 +417,84 @@ final class MachinesTest {
       CHECK.noArgument(x, "ledge of place " + wrong, () -> x.ledge(0, wrong));
     }
     CHECK.noArgument(x, "ledge of a table", () -> x.ledge(1, 0));
+  }
+
+  private static void ledgeAtItsStrength() {
+    for (int strength = 1; strength <= 9; strength++) {
+      PennyArcade x = new PennyArcade();
+      x.addPusher(strength, 0);
+      x.come(20, 9);
+      for (int coins = 1; coins <= strength; coins++) {
+        x.play(0, 0, 0, 0);
+        CHECK.is("as many as the strength " + strength + " stay", x.ledge(0, 0), coins);
+        CHECK.is("and none goes on", x.ledge(0, 1), 0);
+      }
+      x.play(0, 0, 0, 0);
+      int half = (strength + 1) / 2;
+      CHECK.is("one more than " + strength + ": half goes", x.ledge(0, 1), half);
+      CHECK.is("one more than " + strength + ": the rest stays", x.ledge(0, 0), strength + 1 - half);
+    }
+  }
+
+  private static void ledgeFallsInNumbers() {
+    PennyArcade x = new PennyArcade();
+    x.addPusher(3, 7);
+    x.come(30, 9);
+    for (int play = 1; play <= 15; play++) {
+      int due = play == 12 || play == 14 ? 2 : 0;
+      CHECK.is("what falls at play " + play, x.play(0, 0, 0, 0), due);
+    }
+    int[] due = {3, 2, 2, 2, 2};
+    for (int place = 0; place < 5; place++) {
+      CHECK.is("ledge(0, " + place + ")", x.ledge(0, place), due[place]);
+    }
+    facts(x, 0, 1, 0, 0, 3, 7, 15, 0, 0, 15, 4, 11);
+  }
+
+  private static void lastOfEightMachines() {
+    PennyArcade x = new PennyArcade();
+    for (int i = 0; i < 6; i++) {
+      x.addTable(3, 2, i);
+    }
+    x.addPusher(2, 6);
+    x.addTable(4, 3, 7);
+    CHECK.is("bend of the last", x.bend(7, 2, 3, 1), 0);
+    CHECK.is("setCup of the last", x.setCup(7, 3, 20), 0);
+    CHECK.is("machine of the last", x.machine(7, 4), 7);
+    CHECK.is("ends of the last", x.ends(7, 3, 0), 3);
+    CHECK.is("bestTilt of the last", x.bestTilt(7, 3), 0);
+    CHECK.is("dead of the last", x.dead(7), 0);
+    CHECK.is("ledge of the last but one", x.ledge(6, 4), 0);
+    CHECK.noIndex(x, "bend of machine 8", () -> x.bend(8, 0, 0, 0));
+    CHECK.noIndex(x, "setCup of machine 8", () -> x.setCup(8, 0, 0));
+    CHECK.noIndex(x, "machine 8", () -> x.machine(8, 0));
+    CHECK.noIndex(x, "ends of machine 8", () -> x.ends(8, 0, 0));
+    CHECK.noIndex(x, "bestTilt of machine 8", () -> x.bestTilt(8, 0));
+    CHECK.noIndex(x, "dead of machine 8", () -> x.dead(8));
+    CHECK.noIndex(x, "ledge of machine 8", () -> x.ledge(8, 0));
+  }
+
+  private static void noMachineIsNamedFirst() {
+    PennyArcade x = new PennyArcade();
+    x.addTable(3, 2, 0);
+    x.addPusher(1, 0);
+    for (int none : new int[] {-1, 2, MIN, MAX}) {
+      String told = "machine " + none + " and ";
+      for (int wrong : new int[] {-1, 9, 12, MIN, MAX}) {
+        CHECK.noIndex(x, "bend of " + told + "row " + wrong, () -> x.bend(none, wrong, 0, 0));
+        CHECK.noIndex(x, "bend of " + told + "column " + wrong, () -> x.bend(none, 0, wrong, 0));
+        CHECK.noIndex(x, "setCup of " + told + "column " + wrong, () -> x.setCup(none, wrong, 0));
+        CHECK.noIndex(x, "ends of " + told + "column " + wrong, () -> x.ends(none, wrong, 0));
+        CHECK.noIndex(x, "bestTilt of " + told + "column " + wrong, () -> x.bestTilt(none, wrong));
+        CHECK.noIndex(x, "ledge of " + told + "place " + wrong, () -> x.ledge(none, wrong));
+      }
+      for (int wrong : new int[] {-2, 2, MIN, MAX}) {
+        CHECK.noIndex(x, "bend of " + told + "side " + wrong, () -> x.bend(none, 0, 0, wrong));
+        CHECK.noIndex(x, "ends of " + told + "tilt " + wrong, () -> x.ends(none, 0, wrong));
+      }
+      for (int wrong : new int[] {-1, 21, MIN, MAX}) {
+        CHECK.noIndex(x, "setCup of " + told + "pay " + wrong, () -> x.setCup(none, 0, wrong));
+      }
+    }
   }
 }

@@ -12,6 +12,9 @@ final class MechanicTest {
     wearAndSkillAtTheBeginning();
     oneBehindTheOther();
     playWhileRepaired();
+    eachMachineOnceInTheRow();
+    eightInTheRow();
+    skillOfZeroToFive();
     CHECK.finish();
   }
 
@@ -148,5 +151,61 @@ final class MechanicTest {
     CHECK.is("the player is there still", x.player(0, 2), 0);
     x.pass(1);
     CHECK.is("and plays on", x.machine(0, 5), 1);
+  }
+
+  private static void eachMachineOnceInTheRow() {
+    PennyArcade x = worn(20, 0);
+    x.call(0);
+    x.pass(1);
+    CHECK.noState(x, "call(0) while it is repaired", () -> x.call(0));
+    x.pass(1);
+    CHECK.noState(x, "call(0) in the last round but one", () -> x.call(0));
+    x.pass(1);
+    CHECK.is("it has left the row", x.count(8), 0);
+    CHECK.is("call(0) when it has left", x.call(0), 1);
+    CHECK.noState(x, "call(0) again", () -> x.call(0));
+  }
+
+  private static void eightInTheRow() {
+    PennyArcade x = worn(0, 0, 0, 0, 0, 0, 0, 0);
+    for (int i = 0; i < 8; i++) {
+      CHECK.is("call of machine " + (7 - i), x.call(7 - i), i + 1);
+    }
+    for (int i = 0; i < 8; i++) {
+      CHECK.is("repair(" + i + ")", x.repair(i), 7 - i);
+    }
+    CHECK.noIndex(x, "repair(8)", () -> x.repair(8));
+    CHECK.noIndex(x, "call(8)", () -> x.call(8));
+    for (int machine = 0; machine < 8; machine++) {
+      int again = machine;
+      CHECK.noState(x, "call(" + again + ") of eight", () -> x.call(again));
+    }
+    for (int left = 8; left > 0; left--) {
+      CHECK.is("in the row", x.count(8), left);
+      CHECK.is("the first one", x.repair(0), left - 1);
+      CHECK.is("none is begun with", x.count(9), 0);
+      x.pass(1);
+    }
+    CHECK.is("the row is empty", x.count(8), 0);
+    CHECK.noIndex(x, "repair(0) then", () -> x.repair(0));
+    x.pass(1);
+    CHECK.is("an empty row gives no work", x.count(9), 0);
+  }
+
+  private static void skillOfZeroToFive() {
+    int[][] due = {{3, 2, 1, 1, 1, 1}, {2, 1, 1, 1, 1, 1}, {1, 1, 1, 1, 1, 1}};
+    int[] wears = {20, 10, 9};
+    for (int i = 0; i < wears.length; i++) {
+      for (int skill = 0; skill <= 5; skill++) {
+        PennyArcade x = worn(wears[i]);
+        keepPlayersAway(x);
+        x.setSkill(skill);
+        x.call(0);
+        String told = "wear " + wears[i] + ", skill " + skill;
+        x.pass(1);
+        CHECK.is("rounds left behind one: " + told, x.count(9), due[i][skill] - 1);
+        CHECK.is("in the row behind one: " + told, x.count(8), due[i][skill] > 1 ? 1 : 0);
+      }
+    }
   }
 }
