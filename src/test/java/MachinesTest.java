@@ -20,6 +20,7 @@ final class MachinesTest {
     bestTilt();
     dead();
     deadAtBothEnds();
+    deadOfEachWidth();
     ledge();
     ledgeAtItsStrength();
     ledgeFallsInNumbers();
@@ -417,6 +418,20 @@ final class MachinesTest {
       CHECK.noArgument(x, "ledge of place " + wrong, () -> x.ledge(0, wrong));
     }
     CHECK.noArgument(x, "ledge of a table", () -> x.ledge(1, 0));
+  }
+
+  private static void deadOfEachWidth() {
+    for (int columns = 3; columns <= 9; columns++) {
+      for (int side = -1; side <= 1; side += 2) {
+        PennyArcade x = new PennyArcade();
+        x.addTable(columns, 2, 0);
+        for (int column = 0; column < columns; column++) {
+          x.bend(0, 0, column, side);
+          x.bend(0, 1, column, side);
+        }
+        CHECK.is("two rows of " + columns + " bent to " + side + " leave two cups dead", x.dead(0), 2);
+      }
+    }
   }
 
   private static void ledgeAtItsStrength() {
